@@ -6,9 +6,9 @@ public final class MineAir {
     public static final int NONE = -1;
 
     private static final int NOT_SO = -2;
-    private static final int NO_NUMBER = Integer.MIN_VALUE;
+    private static final int NO_NUMBER = -2147483648;
     private static final int NO_AIR = -100;
-    private static final int NEVER = Integer.MAX_VALUE;
+    private static final int NEVER = 2147483647;
 
     private static final int MOST_BYTES = 600;
     private static final int MOST_WAYS = 14;
@@ -183,24 +183,28 @@ public final class MineAir {
 
     public int gas(int w) {
         if (!isWay(w)) return refuse(NO_SUCH);
-        if (now.isRinged()) return refuse(NOT_THUS);
+        now.carry();
+        if (now.load.ringed) return refuse(NOT_THUS);
         return accept(now.load.gas[w]);
     }
 
     public int thick(int w) {
         if (!isWay(w)) return refuse(NO_SUCH);
-        if (now.isRinged()) return refuse(NOT_THUS);
+        now.carry();
+        if (now.load.ringed) return refuse(NOT_THUS);
         return accept(now.thickness(w));
     }
 
     public int over() {
         if (!isBooked()) return refuse(NO_SUCH);
-        if (now.isRinged()) return refuse(NOT_THUS);
+        now.carry();
+        if (now.load.ringed) return refuse(NOT_THUS);
         return accept(now.countOver());
     }
 
     public int sound() {
         if (!isBooked()) return refuse(NO_SUCH);
+        now.carry();
         return accept(now.verdict());
     }
 
@@ -513,6 +517,8 @@ public final class MineAir {
         private static final int OF_FAN = 2;
         private static final int OF_FACE = 3;
 
+        // Eight letters go into one long.
+        private static final int LETTER_BITS = 5;
         private static final int LONGEST_WORD = 8;
         private static final int LONGEST_WHOLE = 4;
 
@@ -554,22 +560,18 @@ public final class MineAir {
             draft.clear();
             next();
             for (int line = 0; line <= MOST_BYTES; line++) {
-                readLine();
+                if (takeWord("way")) readWay();
+                else if (takeWord("door")) readDoor();
+                else if (takeWord("pair")) readPair();
+                else if (takeWord("fan")) readFan();
+                else if (takeWord("face")) readFace();
+                else miss(FORM);
                 if (fault != 0) return false;
                 if (token == END) return true;
                 if (token != BREAK) return miss(FORM);
                 next();
             }
             return miss(FORM);
-        }
-
-        private void readLine() {
-            if (takeWord("way")) readWay();
-            else if (takeWord("door")) readDoor();
-            else if (takeWord("pair")) readPair();
-            else if (takeWord("fan")) readFan();
-            else if (takeWord("face")) readFace();
-            else miss(FORM);
         }
 
         // The take methods do nothing once a FAULT is met, so that the first one stays.
@@ -791,7 +793,7 @@ public final class MineAir {
 
         private void readWord() {
             for (int i = at; i < end && isLetter(tape[i]); i++) {
-                tokenValue = withLetter(tokenValue, tape[i]);
+                tokenValue = tokenValue << LETTER_BITS | tape[i] - 'a' + 1;
                 at = i + 1;
             }
             token = at - tokenStart > LONGEST_WORD ? BAD : WORD;
@@ -813,15 +815,11 @@ public final class MineAir {
             return sign >= '0' && sign <= '9';
         }
 
-        /** A WORD as one number: eight letters of five bits each. */
+        /** A WORD as one number, as readWord makes it. */
         private static long codeOf(String word) {
             long code = 0;
-            for (int i = 0; i < word.length(); i++) code = withLetter(code, word.charAt(i));
+            for (int i = 0; i < word.length(); i++) code = code << LETTER_BITS | word.charAt(i) - 'a' + 1;
             return code;
-        }
-
-        private static long withLetter(long code, int letter) {
-            return code << 5 | letter - 'a' + 1;
         }
     }
 
@@ -882,8 +880,8 @@ public final class MineAir {
      */
     private static final class Flow {
         private static final int TIE_BITS = 28;
-        private static final long BARRED = Long.MAX_VALUE;
-        private static final int WIDEST_STEP = 32;
+        private static final long BARRED = 9223372036854775807L;
+        private static final int WIDEST_STEP = 8;
         private static final int MOST_ROUNDS = 1000000;
         private static final int[] THREES = {
             1, 3, 9, 27, 81, 243, 729, 2187, 6561, 19683, 59049, 177147, 531441, 1594323
@@ -927,7 +925,7 @@ public final class MineAir {
         long totalCost() {
             takeState();
             long sum = 0;
-            for (int w = 0; w < book.ways; w++) sum += costOf(w, air[w]);
+            for (int w = 0; w < book.ways; w++) sum += rankOf(w, air[w]) >> TIE_BITS;
             return sum;
         }
 
@@ -943,15 +941,13 @@ public final class MineAir {
             if (cut) clear();
         }
 
-        private long costOf(int w, int q) {
+        /** COST of all STEPS from 0 to q in the high bits, the sum that decides in the low ones. */
+        private long rankOf(int w, int q) {
             long n = q < 0 ? -q : q;
             long squares = n * (n + 1) * (2 * n + 1) / 6;
-            long whole = (long) q * (q + 1) / 2;
-            return hindrance[w] * squares - pull[w] * q + droop[w] * whole;
-        }
-
-        private long rankOf(int w, int q) {
-            return (costOf(w, q) << TIE_BITS) + (long) THREES[w] * (q < 0 ? -q : q);
+            long wholes = (long) q * (q + 1) / 2;
+            long cost = hindrance[w] * squares - pull[w] * q + droop[w] * wholes;
+            return (cost << TIE_BITS) + THREES[w] * n;
         }
 
         private void rate(int w, int step) {
@@ -1181,11 +1177,12 @@ public final class MineAir {
             settled = true;
         }
 
-        boolean isRinged() {
+        /** Is to be called ahead of all that tells of GAS. */
+        void carry() {
             settle();
-            if (!carried) load.carry(flow.air);
+            if (carried) return;
+            load.carry(flow.air);
             carried = true;
-            return load.ringed;
         }
 
         int thickness(int w) {
@@ -1203,7 +1200,7 @@ public final class MineAir {
         }
 
         int verdict() {
-            if (isRinged()) return RING;
+            if (load.ringed) return RING;
             if (countOver() > 0) return OVER;
             Gear gear = book.gear;
             for (int f = 0; f < gear.faces; f++) {
@@ -1215,7 +1212,10 @@ public final class MineAir {
         /** Whether the STATE, changed since, is SOUND. */
         boolean isSoundAnew() {
             forget();
-            return !state.hasOpenPair() && verdict() == 0;
+            if (state.hasOpenPair()) return false;
+            flow.settle();
+            load.carry(flow.air);
+            return verdict() == 0;
         }
     }
 
@@ -1411,7 +1411,8 @@ public final class MineAir {
         }
 
         private boolean isSafeFrom(int depth, int shown) {
-            if (!isSoundWith(shown)) return false;
+            if (soundBy[shown] == UNKNOWN) soundBy[shown] = trial.isSoundAnew() ? YES : NO;
+            if (soundBy[shown] == NO) return false;
             if (depth >= count || depth >= MOST_CHANGES) return true;
             for (int c = 0; c < count; c++) {
                 if ((made >> c & 1) != 0) continue;
@@ -1425,11 +1426,6 @@ public final class MineAir {
                 if (safe) return true;
             }
             return false;
-        }
-
-        private boolean isSoundWith(int shown) {
-            if (soundBy[shown] == UNKNOWN) soundBy[shown] = trial.isSoundAnew() ? YES : NO;
-            return soundBy[shown] == YES;
         }
 
         private int alike(int c) {
