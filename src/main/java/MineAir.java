@@ -870,6 +870,16 @@ public final class MineAir {
             }
             return false;
         }
+
+        /** A FACE that can't be SOUND, whatever the AIR of the other WAYS. */
+        boolean hasFallenFace() {
+            Gear gear = book.gear;
+            for (int f = 0; f < gear.faces; f++) {
+                boolean asks = gear.faceGas[f] > 0 || gear.faceNeed[f] > 0;
+                if (asks && fallen[gear.faceWay[f]]) return true;
+            }
+            return false;
+        }
     }
 
     /**
@@ -880,8 +890,9 @@ public final class MineAir {
      */
     private static final class Flow {
         private static final int TIE_BITS = 28;
-        private static final long BARRED = 9223372036854775807L;
-        private static final int WIDEST_STEP = 8;
+        // More than all labels together, which are never above 0.
+        private static final long BARRED = 1L << 62;
+        private static final int WIDEST_STEP = 4;
         private static final int MOST_ROUNDS = 1000000;
         private static final int[] THREES = {
             1, 3, 9, 27, 81, 243, 729, 2187, 6561, 19683, 59049, 177147, 531441, 1594323
@@ -976,16 +987,19 @@ public final class MineAir {
 
         private boolean relax() {
             boolean moved = false;
-            for (int w = 0; w < book.ways; w++) {
+            int ways = book.ways;
+            for (int w = 0; w < ways; w++) {
                 int tail = book.tail[w];
                 int head = book.head[w];
-                if (forth[w] != BARRED && label[tail] + forth[w] < label[head]) {
-                    label[head] = label[tail] + forth[w];
+                long there = label[tail] + forth[w];
+                if (there < label[head]) {
+                    label[head] = there;
                     cause[head] = 2 * w;
                     moved = true;
                 }
-                if (back[w] != BARRED && label[head] + back[w] < label[tail]) {
-                    label[tail] = label[head] + back[w];
+                long here = label[head] + back[w];
+                if (here < label[tail]) {
+                    label[tail] = here;
                     cause[tail] = 2 * w + 1;
                     moved = true;
                 }
@@ -1212,7 +1226,7 @@ public final class MineAir {
         /** Whether the STATE, changed since, is SOUND. */
         boolean isSoundAnew() {
             forget();
-            if (state.hasOpenPair()) return false;
+            if (state.hasOpenPair() || state.hasFallenFace()) return false;
             flow.settle();
             load.carry(flow.air);
             return verdict() == 0;

@@ -294,6 +294,11 @@ public final class BookTest {
         good(faces, 5);
         bad(5, fans + ";fan ^q in e push 1 fall 0 cost 1");
         bad(5, faces + ";face ^q in e gas 1 need 1");
+        String most = side(14);
+        for (int d = 0; d < 6; d++) most += ";door p" + (char) ('a' + d) + " in " + (char) ('a' + d) + " by1";
+        for (int f = 0; f < 3; f++) most += ";fan q" + (char) ('a' + f) + " in " + (char) ('a' + f) + " push1fall0cost1";
+        good(most, 14);
+        bad(3, most + ";way ^n");
         String knots = "way a a b hinder1size1walk1;way b c d hinder1size1walk1;way c e f hinder1size1walk1;"
                 + "way d g h hinder1size1walk1";
         good(knots + ";way e i j hinder1size1walk1;way f a j hinder1size1walk1", 6);

@@ -64,7 +64,10 @@ public final class FaceTest {
                 else Check.is(f + " is final", Modifier.isFinal(f.getModifiers()), true);
             }
             Check.is(c + " has some twenty fields", fields <= 20, true);
-            for (Method m : c.getDeclaredMethods()) Check.is(m + ": parameters", m.getParameterCount() <= 7, true);
+            for (Method m : c.getDeclaredMethods()) {
+                Check.is(m + ": parameters", m.getParameterCount() <= 7, true);
+                for (String s : FACE) Check.is(m + " has a public one's name", s.contains(" " + m.getName() + "("), false);
+            }
         }
     }
 

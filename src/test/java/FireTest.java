@@ -136,6 +136,15 @@ public final class FireTest {
         mine.man(1);
         mine.fire(0, 1);
         Check.refused(mine, "early enough", mine.out(0), 13, 0);
+        // through d at 14 would be as early as by z, but SMOKE is there at 14
+        mine = Check.of("way a day x hinder 1 size 100 walk 5 draught 200;way b x y hinder 1 size 33 walk 4;"
+                + "way c x y hinder 1 size 7 walk 9;way d y day hinder 1 size 50 walk 14;"
+                + "way e z day hinder 99 size 1 walk 13;way f y z hinder 99 size 1 walk 1");
+        mine.man(2);
+        mine.fire(0, 1);
+        smokes(mine, "e and f are STILL", 0, 12, 12, 14, -2, -2);
+        Check.refused(mine, "by z", mine.out(0), 14, 0);
+        leds(mine, 0, "by z", 2, 3, 0);
     }
 
     private static void likeWays() {
