@@ -405,7 +405,6 @@ public final class MineAir {
         final int[] fanIn = new int[MOST_WAYS];
         final int[] faceIn = new int[MOST_WAYS];
         int knots;
-        final long[] knotName = new long[MOST_KNOTS];
         int day = NONE;
         final Gear gear = new Gear();
 
@@ -434,16 +433,8 @@ public final class MineAir {
             System.arraycopy(other.fanIn, 0, fanIn, 0, MOST_WAYS);
             System.arraycopy(other.faceIn, 0, faceIn, 0, MOST_WAYS);
             knots = other.knots;
-            System.arraycopy(other.knotName, 0, knotName, 0, MOST_KNOTS);
             day = other.day;
             gear.copy(other.gear);
-        }
-
-        int knotNumber(long name) {
-            for (int k = 0; k < knots; k++) {
-                if (knotName[k] == name) return k;
-            }
-            return NONE;
         }
 
         int startOf(int w, int air) {
@@ -463,13 +454,11 @@ public final class MineAir {
     /** DOORS, PAIRS, FANS and FACES of a BOOK. */
     private static final class Gear {
         int doors;
-        final int[] doorWay = new int[MOST_DOORS];
         final int[] doorBy = new int[MOST_DOORS];
         int pairs;
         final int[] pairFirst = new int[MOST_PAIRS];
         final int[] pairSecond = new int[MOST_PAIRS];
         int fans;
-        final int[] fanWay = new int[MOST_FANS];
         final int[] fanPush = new int[MOST_FANS];
         final int[] fanFall = new int[MOST_FANS];
         final int[] fanCost = new int[MOST_FANS];
@@ -480,13 +469,11 @@ public final class MineAir {
 
         void copy(Gear other) {
             doors = other.doors;
-            System.arraycopy(other.doorWay, 0, doorWay, 0, MOST_DOORS);
             System.arraycopy(other.doorBy, 0, doorBy, 0, MOST_DOORS);
             pairs = other.pairs;
             System.arraycopy(other.pairFirst, 0, pairFirst, 0, MOST_PAIRS);
             System.arraycopy(other.pairSecond, 0, pairSecond, 0, MOST_PAIRS);
             fans = other.fans;
-            System.arraycopy(other.fanWay, 0, fanWay, 0, MOST_FANS);
             System.arraycopy(other.fanPush, 0, fanPush, 0, MOST_FANS);
             System.arraycopy(other.fanFall, 0, fanFall, 0, MOST_FANS);
             System.arraycopy(other.fanCost, 0, fanCost, 0, MOST_FANS);
@@ -531,6 +518,7 @@ public final class MineAir {
         private final int[] nameKind = new int[MOST_NAMES];
         private final int[] nameNumber = new int[MOST_NAMES];
         private int named;
+        private final long[] knotNames = new long[MOST_KNOTS];
         private int end;
         private int at;
         private int token;
@@ -601,7 +589,6 @@ public final class MineAir {
             int by = takeWhole("by", 1, 99);
             if (fault != 0) return;
             draft.doorIn[w] = d;
-            gear.doorWay[d] = w;
             gear.doorBy[d] = by;
             gear.doors++;
         }
@@ -631,7 +618,6 @@ public final class MineAir {
             int cost = takeWhole("cost", 1, 99);
             if (fault != 0) return;
             draft.fanIn[w] = f;
-            gear.fanWay[f] = w;
             gear.fanPush[f] = push;
             gear.fanFall[f] = fall;
             gear.fanCost[f] = cost;
@@ -672,7 +658,7 @@ public final class MineAir {
                 miss(FORM);
                 return 0;
             }
-            int k = draft.knotNumber(tokenValue);
+            int k = knotNumber();
             if (k == NONE) k = addKnot();
             else if (k == other) miss(AGAIN);
             if (fault == 0) next();
@@ -685,7 +671,7 @@ public final class MineAir {
                 miss(MANY);
                 return 0;
             }
-            draft.knotName[k] = tokenValue;
+            knotNames[k] = tokenValue;
             if (isWord("day")) draft.day = k;
             draft.knots++;
             return k;
@@ -763,6 +749,13 @@ public final class MineAir {
         private int nameIndex() {
             for (int i = 0; i < named; i++) {
                 if (names[i] == tokenValue) return i;
+            }
+            return NONE;
+        }
+
+        private int knotNumber() {
+            for (int k = 0; k < draft.knots; k++) {
+                if (knotNames[k] == tokenValue) return k;
             }
             return NONE;
         }
