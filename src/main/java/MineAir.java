@@ -926,8 +926,8 @@ public final class MineAir {
             }
         }
 
+        /** COST of the AIR that settle() found. */
         long totalCost() {
-            takeState();
             long sum = 0;
             for (int w = 0; w < book.ways; w++) sum += rankOf(w, air[w]) >> TIE_BITS;
             return sum;
