@@ -1,9 +1,16 @@
+import java.io.IOException;
 import java.lang.reflect.Constructor;
 import java.lang.reflect.Field;
 import java.lang.reflect.Method;
 import java.lang.reflect.Modifier;
+import java.nio.file.Files;
+import java.nio.file.Path;
+import java.util.ArrayList;
 import java.util.Arrays;
+import java.util.List;
 import java.util.TreeSet;
+import java.util.regex.Matcher;
+import java.util.regex.Pattern;
 
 /** The public face, and that calls make no objects. */
 public final class FaceTest {
@@ -16,11 +23,27 @@ public final class FaceTest {
         "int fits(int)", "int led(int, int) throws java.util.NoSuchElementException", "int count(int)", "int trouble()"
     };
 
-    public static void main(String[] args) {
+    public static void main(String[] args) throws IOException {
+        asWritten();
         face();
         inside();
         makesNothing();
         Check.end();
+    }
+
+    /** FACE is what the document writes out, call by call. */
+    private static void asWritten() throws IOException {
+        Path document = Path.of(System.getProperty("project", "."), "..", "shared", "DOC.md");
+        Matcher block = Pattern.compile("(?s)```java\n(.*?)```").matcher(Files.readString(document));
+        Check.is("the document writes the face", block.find(), true);
+        List<String> written = new ArrayList<>();
+        Matcher call = Pattern.compile("public (\\w+ \\w+)\\(([^)]*)\\)( throws \\w+)?;").matcher(block.group(1));
+        while (call.find()) {
+            String thrown = call.group(3) == null ? "" : call.group(3).replace("throws ", "throws java.util.");
+            written.add(call.group(1) + "(" + call.group(2).replaceAll("(int|boolean|long) \\w+", "$1") + ")" + thrown);
+        }
+        Check.is("calls of the face", written.size(), FACE.length);
+        for (String s : FACE) Check.is("written in the document: " + s, written.contains(s), true);
     }
 
     private static void face() {
