@@ -34,6 +34,10 @@ public final class FaceTest {
     /** FACE is what the document writes out, call by call. */
     private static void asWritten() throws IOException {
         Path document = Path.of(System.getProperty("project", "."), "..", "shared", "DOC.md");
+        if (!Files.isReadable(document)) {
+            System.out.println("no " + document + " to hold the face against");
+            return;
+        }
         Matcher block = Pattern.compile("(?s)```java\n(.*?)```").matcher(Files.readString(document));
         Check.is("the document writes the face", block.find(), true);
         List<String> written = new ArrayList<>();
